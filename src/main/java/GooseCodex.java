@@ -217,7 +217,8 @@ public final class GooseCodex {
 
     public boolean dares(int visitor) throws IndexOutOfBoundsException {
         demandVisitor(visitor);
-        return !now.isBehindAll(visitor) && now.isBold(visitor);
+        return !now.isBehindAll(visitor)
+                && now.guestHiss(visitor) <= now.guests.nerve[visitor];
     }
 
     // ---- what would be
@@ -301,7 +302,20 @@ public final class GooseCodex {
         d = mix(d, loudestGate());
         d = mixGates(d);
         d = mixGeese(d);
-        return mixVisitors(d);
+        // The visitors are told here, not in a helper, since what would be asks for deep calls.
+        for (int visitor = 0; visitor < now.guests.count; visitor++) {
+            d = mix(d, passedBy(visitor));
+            d = mix(d, cornsOf(visitor));
+            d = mix(d, nerveOf(visitor));
+            d = mix(d, retreatOf(visitor));
+            d = mix(d, hissAt(visitor));
+            d = mix(d, dares(visitor) ? 1 : 0);
+            d = mix(d, beatsUntilIn(visitor));
+            d = mix(d, bestToBribe(visitor));
+            d = mix(d, bribesWanted(visitor));
+            d = mix(d, rankWanted(visitor));
+        }
+        return d;
     }
 
     private long mixGates(long start) {
@@ -320,23 +334,6 @@ public final class GooseCodex {
             d = mix(d, temperOf(goose));
             d = mix(d, calmFor(goose));
             d = mix(d, eatenBy(goose));
-        }
-        return d;
-    }
-
-    private long mixVisitors(long start) {
-        long d = start;
-        for (int visitor = 0; visitor < now.guests.count; visitor++) {
-            d = mix(d, passedBy(visitor));
-            d = mix(d, cornsOf(visitor));
-            d = mix(d, nerveOf(visitor));
-            d = mix(d, retreatOf(visitor));
-            d = mix(d, hissAt(visitor));
-            d = mix(d, dares(visitor) ? 1 : 0);
-            d = mix(d, beatsUntilIn(visitor));
-            d = mix(d, bestToBribe(visitor));
-            d = mix(d, bribesWanted(visitor));
-            d = mix(d, rankWanted(visitor));
         }
         return d;
     }
@@ -570,10 +567,6 @@ public final class GooseCodex {
             return gateHiss(guests.passed[guest], guests.rank[guest]);
         }
 
-        boolean isBold(int guest) {
-            return guestHiss(guest) <= guests.nerve[guest];
-        }
-
         boolean isBehindAll(int guest) {
             return guests.passed[guest] >= gateCount;
         }
@@ -632,25 +625,20 @@ public final class GooseCodex {
         void moveGuest(int guest) {
             if (guests.retreat[guest] > 0) {
                 guests.retreat[guest]--;
-            } else if (isBold(guest)) {
-                goThrough(guest);
-            } else {
-                yieldToGeese(guest);
+                return;
             }
-        }
-
-        void goThrough(int guest) {
             int gate = guests.passed[guest];
-            guests.passed[guest] = gate + 1;
-            flock.enrage(gate);
-        }
-
-        void yieldToGeese(int guest) {
-            int goose = flock.fiercestAwake(guests.passed[guest]);
+            int hiss = gateHiss(gate, guests.rank[guest]);
+            if (hiss <= guests.nerve[guest]) {
+                guests.passed[guest] = gate + 1;
+                flock.enrage(gate);
+                return;
+            }
+            int goose = flock.fiercestAwake(gate);
             if (guests.corns[guest] > 0 && flock.hasGoose(goose)) {
                 payGoose(guest, goose);
             } else {
-                guests.fallBack(guest, gradeOfHiss(guestHiss(guest)));
+                guests.fallBack(guest, gradeOfHiss(hiss));
                 retreatCount++;
             }
         }

@@ -9,41 +9,30 @@ public final class BeatTest {
         gradesOfRetreat();
         nerveEndsAtTwenty();
         cornGoesBeforeRetreat();
+        theFullestCodex();
         Due.end();
     }
 
     private static void calmGeeseWake() {
         GooseCodex x = codex(9, 9);
+        x.addGoose(0, 9);
         x.arrive(0, 0, 1);
         x.bribe(0, 0);
-        Due.due("calmFor at once", x.calmFor(0), 3);
-        GooseCodex y = codex(9, 9);
-        y.addGoose(0, 9);
-        y.addGoose(0, 9);
-        y.arrive(0, 0, 2);
-        int[] calm = new int[4];
-        y.bribe(0, 0);
-        for (int i = 0; i < 4; i++) {
-            y.passBeats(1);
-            calm[i] = y.calmFor(0);
+        int[] calm = {3, 2, 1, 0, 0};
+        for (int beat = 0; beat < calm.length; beat++) {
+            Due.due("calmFor after " + beat, x.calmFor(0), calm[beat]);
+            x.passBeats(1);
         }
-        Due.due("calmFor after 1", calm[0], 2);
-        Due.due("calmFor after 2", calm[1], 1);
-        Due.due("calmFor after 3", calm[2], 0);
-        Due.due("calmFor after 4", calm[3], 0);
-        // Geese grow a beat less calm before the visitors act: a goose calm for 1 hisses already.
-        GooseCodex z = codex(0, 5);
-        z.addGoose(0, 5);
-        z.arrive(0, 5, 1);
-        z.bribe(0, 0);
-        Due.due("dares with one calm", z.dares(0), true);
-        z.passBeats(1);
-        z.arrive(0, 4, 0);
-        z.passBeats(1);
-        Due.due("retreatOf behind the second beat", z.retreatOf(1), 2);
-        Due.due("calmFor then", z.calmFor(0), 1);
-        z.passBeats(1);
-        Due.due("calmFor then, awake", z.calmFor(0), 0);
+        // Geese wake before the visitors act, so who would dare now does not in the next beat.
+        GooseCodex y = codex(0, 9);
+        y.arrive(0, 0, 1);
+        y.bribe(0, 0);
+        y.passBeats(2);
+        y.arrive(0, 0, 0);
+        Due.due("calmFor a last beat", y.calmFor(0), 1);
+        Due.due("dares as it is now", y.dares(1), true);
+        Due.due("does not come in", y.passBeats(1), 0);
+        Due.due("but retreats", y.retreatOf(1), 2);
     }
 
     private static void goingThroughEnrages() {
@@ -181,6 +170,34 @@ public final class BeatTest {
         Due.due("the first is not", x.isInFarm(0), false);
         Due.due("the goose is not enraged when calm", x.temperOf(0), 8);
         Due.due("the first comes in then", x.passBeats(1), 1);
+    }
+
+    /** Six gates, eight geese and eight visitors, all of whom bribe at the first gate. */
+    private static void theFullestCodex() {
+        GooseCodex x = new GooseCodex();
+        for (int gate = 0; gate < 6; gate++) {
+            x.addGate(9);
+        }
+        for (int goose = 0; goose < 8; goose++) {
+            x.addGoose(0, 9);
+        }
+        for (int visitor = 0; visitor < 8; visitor++) {
+            x.arrive(0, 0, 20);
+        }
+        Due.due("hiss at the last", x.hissAt(7), 144);
+        x.passBeats(1);
+        for (int goose = 0; goose < 8; goose++) {
+            Due.due("calmFor " + goose, x.calmFor(goose), 3);
+            Due.due("temperOf " + goose, x.temperOf(goose), 8);
+        }
+        x.passBeats(1);
+        for (int visitor = 0; visitor < 8; visitor++) {
+            Due.due("passedBy " + visitor, x.passedBy(visitor), 1);
+        }
+        Due.due("nobody is in ahead of the sixth", x.passBeats(4), 0);
+        Due.due("all come in", x.passBeats(1), 8);
+        Due.due("bribes", x.bribes(), 8);
+        Due.due("retreats", x.retreats(), 0);
     }
 
     /** One gate with one goose. */
