@@ -1,7 +1,8 @@
-/** Long runs of calls on the codex and on the model of it: both answer the same. */
+/** Runs of up to 512 calls on the codex and on the model of it: both answer the same. */
 public final class ModelTest {
-    private static final int RUNS = 150;
+    private static final int RUNS = 300;
     private static final int CALLS = 512;
+    private static final int MOST_OF_A_STEP = 10;
     private static final int KINDS = 41;
 
     // A fixed row of numbers, so that each run of the test is the same.
@@ -13,11 +14,9 @@ public final class ModelTest {
             Model model = new Model();
             // Calm runs set up little and by right numbers alone, so that visitors get far.
             boolean wild = run % 3 == 0;
-            if (!wild) {
-                setUp(codex, model);
-            }
-            for (int call = 0; call < CALLS - 30; call++) {
-                step(run + "/" + call, codex, model, wild);
+            int used = wild ? 0 : setUp(codex, model);
+            while (used + MOST_OF_A_STEP <= CALLS) {
+                used += step(run + "/" + used, codex, model, wild);
             }
         }
         Due.end();
@@ -40,7 +39,8 @@ public final class ModelTest {
         return least + next(most - least + 1);
     }
 
-    private static void setUp(GooseCodex codex, Model model) {
+    /** How many calls it took. */
+    private static int setUp(GooseCodex codex, Model model) {
         int gates = 1 + next(6);
         int geese = next(9);
         for (int i = 0; i < gates; i++) {
@@ -52,9 +52,11 @@ public final class ModelTest {
             int temper = 1 + next(9);
             Due.due("addGoose", codex.addGoose(gate, temper), model.addGoose(gate, temper));
         }
+        return gates + geese;
     }
 
-    private static void step(String at, GooseCodex x, Model m, boolean wild) {
+    /** How many calls it took at the most. */
+    private static int step(String at, GooseCodex x, Model m, boolean wild) {
         int kind = next(KINDS);
         int gate = number(0, Math.max(0, m.gates.size() - 1), wild);
         int goose = number(0, Math.max(0, m.geese.size() - 1), wild);
@@ -94,6 +96,7 @@ public final class ModelTest {
                 number(1, 60, wild)});
         }
         Due.due(at + " digest", x.digest(), m.digest());
+        return kind == 11 ? MOST_OF_A_STEP : 2;
     }
 
     private static void counts(String at, GooseCodex x, Model m) {
